@@ -242,6 +242,7 @@ public final class PromiseTests {
         due("umbrellas stay", x.count(8), 8);
         due("torn stays", x.count(9), 2);
         due("kept stays", x.again(1), 2);
+        x.puff(0, true);
         rewrite(x, "PC021S0190S0120");
         due("pass()", x.pass(), 12);
         due("day", x.count(4), 0);
@@ -291,6 +292,12 @@ public final class PromiseTests {
         x.day();
         due("soft: no fall in wind", x.cloud(0, 4), 8);
         due("soft: not in wind", x.cloud(0, 5), 2 | 8);
+        // Over 5 on day 9 for the first time.
+        x = told("PW1W0C090S5990");
+        due("on the last day", x.cloud(0, 5), 1);
+        days(x, 8);
+        due("on the last day", x.cloud(0, 5), 1);
+        due("not yet", x.cloud(0, 4), 0);
         // Sleet of one flake has none; gilt takes none of sleet.
         x = told("PC011C031S0990S0991");
         due("one flake of sleet", x.cloud(0, 5), 0);
@@ -605,6 +612,7 @@ public final class PromiseTests {
         due("puffed otherwise", x.judge(1, 202), 0);
         due("puffed unknown", x.judge(1, 220), 0);
         due("torn", x.judge(1, 302), NONE);
+        due("torn", x.judge(1, 301), NONE);
         due("torn twice", x.judge(2, 302302), 1);
         due("torn unknown", x.judge(1, 303), 0);
         due("torn with a figure more", x.judge(1, 312), 0);
@@ -744,6 +752,14 @@ public final class PromiseTests {
         x = told("PC092C131S0990");
         due("how many", x.rests(0, 1, 0), 1);
         due("the first", x.rests(0, 1, 1), 22);
+        // A puff on brings cloud 0 all that it has.
+        x = told("PC592C292S0990");
+        due("how many", x.rests(0, 1, 0), 1);
+        due("the first", x.rests(0, 1, 1), 12);
+        // Two more, less a puff, are as much as the flake that is owed here.
+        x = told("PC092C092S0910");
+        due("how many", x.rests(0, 1, 0), 5);
+        due("the first", x.rests(0, 1, 1), 2);
         due("both are one", x.rests(0, 0, 0), OUTSIDE);
         due("what", x.rests(0, 1, 2), OUTSIDE);
         due("what", x.rests(0, 1, -1), OUTSIDE);
@@ -751,7 +767,7 @@ public final class PromiseTests {
         due("other unknown", x.rests(0, 2, 0), UNKNOWN);
         due("both unknown and one", x.rests(4, 4, 0), UNKNOWN);
         due("both unknown and one", x.rests(-1, -1, 9), UNKNOWN);
-        due("nothing is changed", x.cloud(1, 0) + x.count(10), 1);
+        due("nothing is changed", x.cloud(1, 0) + x.count(10), 0);
     }
 
     private static void fails() {
@@ -929,6 +945,7 @@ public final class PromiseTests {
         for (int what = 0; what < wants.length; what++) {
             due("count(" + what + ")", x.count(what), wants[what]);
         }
+        due("owed of two", told("PS0140S1993").count(6), 8);
         x.tear(2);
         due("torn", x.count(9), 6);
         due("owed", x.count(6), 0);
