@@ -3,7 +3,9 @@ import java.util.Random;
 /** Runs of 512 calls by chance (the same ones each time), answered by PromisedSnow and by PlainSnow alike. */
 public final class OracleTests {
     private static final int RUNS = 3000;
+    // What an object answers behind its 512th call is free.
     private static final int CALLS = 512;
+    private static final int CALLS_OF_A_PASS = 70;
     private static final int[] ODD = {Integer.MIN_VALUE, -1, 6, 7, 10, 11, 21, 31, 52, 255, 256, Integer.MAX_VALUE};
 
     private final Random chance;
@@ -34,7 +36,7 @@ public final class OracleTests {
 
     private boolean agrees() {
         while (made < CALLS && same) {
-            if (made == 0 || chance.nextInt(120) == 0) {
+            if (made == 0 || made + CALLS_OF_A_PASS <= CALLS && chance.nextInt(120) == 0) {
                 tellPass();
             } else {
                 call(chance.nextInt(60));
