@@ -11,8 +11,8 @@ public final class AheadBoundsTests {
         Bounds.sentence(15, "how many FLAKES of what is OWED can still be FILLED in all",
             AheadBoundsTests::mostAtItsEnds);
         Bounds.sentence(15, "by CLOUDS that CAN serve (each FLAKE for one PAPER)", AheadBoundsTests::eachFlakeOnce);
-        Bounds.sentence(16, "SHORT for a PAPER: how many of it at least stay OWED, if it is served ahead of all others.",
-            AheadBoundsTests::lacks);
+        Bounds.sentence(16, "SHORT for a PAPER: how many of it at least stay OWED, if it is served ahead of all "
+            + "others.", AheadBoundsTests::lacks);
         Bounds.sentence(16, "SHORT. UNKNOWN.", AheadBoundsTests::lacksRefused);
         Bounds.sentence(17, "the fewest puffs (0 to 3; any CLOUDS, on or back, all now) by which MOST is all that is "
             + "OWED; NONE.", AheadBoundsTests::puffs);

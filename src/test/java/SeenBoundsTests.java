@@ -22,6 +22,9 @@ public final class SeenBoundsTests {
             + "least terms; refusals of them are told likewise.", SeenBoundsTests::fractions);
         Bounds.sentence(23, "RESTS of two CLOUDS: each is PUFFED back (0), on (1), or not (2), now",
             SeenBoundsTests::rests);
+        Bounds.sentence(23, "each has as many FLAKES as it HAS, and CAN serve with, alone, of what is OWED by PAPERS "
+            + "that it CAN serve from where it is then, and 2 more, if the other one is over another YARD then; less "
+            + "1, if it is PUFFED", SeenBoundsTests::whatARestIsWorth);
         Bounds.sentence(23, "RESTS: how many (what = 0), the first (1); NONE. UNKNOWN: both; OUTSIDE: both are one, "
             + "what.", SeenBoundsTests::restsRefused);
         Bounds.sentence(24, "on each of n DAYS (1 to 6) from now on the WIND fails by x tenths (0 to 10), by itself "
@@ -248,6 +251,32 @@ public final class SeenBoundsTests {
         PromisedSnow x = Bounds.told("PC092C092S0910");
         x.fall(0, 0);
         Bounds.due("how many, nothing is owed any more", x.rests(0, 1, 0), 4);
+    }
+
+    /** The other one stays over 3 in any case: a puff on for no flake is too dear, for one it is as good as none. */
+    private static void whatARestIsWorth() {
+        for (String none : new String[] {"C011C312S1990", "C041C312S1991", "C092C312"}) {
+            rest("P" + none, 0, 1, 1, 22);
+        }
+        PromisedSnow x = Bounds.told("PC092C312S1190S1990");
+        Bounds.due("the first, all is owed", x.rests(0, 1, 1), 12);
+        Bounds.days(x, 2);
+        x.tear(1);
+        Bounds.due("the first, one is settled, one is torn", x.rests(0, 1, 1), 22);
+        Bounds.due("how many, one is settled, one is torn", x.rests(0, 1, 0), 1);
+        rest("PW1C022C312S1912", 0, 1, 1, 22);
+        for (String one : new String[] {"C012C312S1990", "C012C312S1910", "C022C312S1910", "C021C312S1990",
+            "C031C312S1990", "C022C312S1933", "C022C312S1913", "C022C312S1912", "C012C312S1911"}) {
+            rest("P" + one, 0, 1, 2, 12);
+        }
+        for (String two : new String[] {"C022C312S1920", "C041C312S1990", "C022C312S1910S1910", "C092C312S1943",
+            "C022C312S1912S1911"}) {
+            rest("P" + two, 0, 1, 1, 12);
+        }
+        // Both alone: each counts all of the same paper for itself.
+        rest("PC022C222S1920", 0, 1, 2, 12);
+        rest("PC032C232S1930", 0, 1, 3, 10);
+        rest("PC042C242S1940", 0, 1, 1, 10);
     }
 
     private static void restsRefused() {
