@@ -19,10 +19,12 @@ public final class ActBoundsTests {
         Bounds.sentence(9, "GILT takes none of SLEET; SOFT only if THE WIND of THE DAY is still.",
             ActBoundsTests::giltAndSoft);
         Bounds.sentence(10, "PUFFED: by bellows a CLOUD is over the next YARD, on or back.", ActBoundsTests::puff);
+        Bounds.sentence(10, "PUFFED: the YARD then. UNKNOWN.", ActBoundsTests::puffRefused);
         Bounds.sentence(11, "(its buyer has it no more; what is FILLED is lost: nothing is FILLED then)",
             ActBoundsTests::tearLoses);
         Bounds.sentence(11, "TORN: what was OWED. UNKNOWN; STATE: it is TORN.", ActBoundsTests::tear);
         Bounds.sentence(12, "The last ACT is undone: how many are left. STATE: there is none.", ActBoundsTests::undo);
+        Bounds.sentence(12, "the last one can be undone.", ActBoundsTests::lastOnly);
         Bounds.sentence(12, "(14 at most; of more the first one is forgotten)", ActBoundsTests::fourteenActs);
         Bounds.sentence(12, "ACTS (DAYS, FALLS, PUFFED, TORN) are a row", ActBoundsTests::onlyThese);
         Bounds.conclude();
@@ -246,6 +248,16 @@ public final class ActBoundsTests {
         PromisedSnow x = Bounds.told("PC010C010C010C510");
         Bounds.due("the last one", x.puff(3, true), 0);
         yards(x, "no other", 0, 0, 0, 0);
+    }
+
+    private static void puffRefused() {
+        PromisedSnow x = Bounds.told("PC010C010C010C510");
+        Bounds.due("puff(0, false)", x.puff(0, false), 5);
+        Bounds.due("puff(3, true)", x.puff(3, true), 0);
+        Bounds.due("puff(-1, true)", x.puff(-1, true), UNKNOWN);
+        Bounds.due("puff(4, false)", x.puff(4, false), UNKNOWN);
+        yards(x, "as they were", 5, 0, 0, 0);
+        Bounds.due("acts", x.count(10), 2);
         for (int c : NO_CLOUDS) {
             Bounds.leavesAll(Bounds::busy, "puff(" + c + ", true)", y -> y.puff(c, true), UNKNOWN);
             Bounds.leavesAll(Bounds::full, "puff(" + c + ", false)", y -> y.puff(c, false), UNKNOWN);
@@ -321,6 +333,24 @@ public final class ActBoundsTests {
         Bounds.due("undo() of none", x.undo(), STATE);
         Bounds.due("the day", x.count(4), 0);
         yards(x, "as it was", 5);
+    }
+
+    private static void lastOnly() {
+        PromisedSnow x = Bounds.told("PC090S0990");
+        x.puff(0, true);
+        x.puff(0, true);
+        x.puff(0, false);
+        Bounds.due("undo()", x.undo(), 2);
+        yards(x, "the third undone", 2);
+        x.tear(0);
+        Bounds.due("undo()", x.undo(), 2);
+        yards(x, "the paper alone is no more torn", 2);
+        Bounds.due("torn", x.count(9), 0);
+        Bounds.due("undo()", x.undo(), 1);
+        yards(x, "the second undone", 1);
+        Bounds.due("undo()", x.undo(), 0);
+        yards(x, "the first undone", 0);
+        Bounds.due("undo() of none", x.undo(), STATE);
     }
 
     private static void fourteenActs() {

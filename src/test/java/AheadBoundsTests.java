@@ -16,6 +16,7 @@ public final class AheadBoundsTests {
         Bounds.sentence(16, "SHORT. UNKNOWN.", AheadBoundsTests::lacksRefused);
         Bounds.sentence(17, "the fewest puffs (0 to 3; any CLOUDS, on or back, all now) by which MOST is all that is "
             + "OWED; NONE.", AheadBoundsTests::puffs);
+        Bounds.sentence(18, "JUDGED: n doings (1 to 4)", AheadBoundsTests::judgeMany);
         Bounds.sentence(18, "OUTSIDE: n, row (0 or more, 3 n figures at most).", AheadBoundsTests::judgeRefused);
         Bounds.sentence(18, "told as three figures each (the first one's are the highest of row)",
             AheadBoundsTests::judgePlaces);
@@ -221,6 +222,16 @@ public final class AheadBoundsTests {
             Bounds.due("judge(" + n + ", 0) without a pass", new PromisedSnow().judge(n, 0), OUTSIDE);
             Bounds.due("judge(" + n + ", -1)", new PromisedSnow().judge(n, -1), OUTSIDE);
         }
+    }
+
+    private static void judgeMany() {
+        PromisedSnow x = judged();
+        Bounds.due("judge(0, 200)", x.judge(0, 200), OUTSIDE);
+        Bounds.due("judge(1, 200)", x.judge(1, 200), NONE);
+        Bounds.due("judge(4, 200201210211)", x.judge(4, 200201210211L), NONE);
+        Bounds.due("judge(4, 200201210212)", x.judge(4, 200201210212L), 3);
+        Bounds.due("judge(5, 200201210211)", x.judge(5, 200201210211L), OUTSIDE);
+        Bounds.due("judge(5, 200200201210211)", x.judge(5, 200200201210211L), OUTSIDE);
     }
 
     private static PromisedSnow judged() {

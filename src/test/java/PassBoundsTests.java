@@ -10,6 +10,7 @@ public final class PassBoundsTests {
         Bounds.sentence(1, "A clear sky.", PassBoundsTests::actsInAClearSky);
         Bounds.sentence(1, "An object is used for at most 512 calls", PassBoundsTests::lastCalls);
         Bounds.sentence(2, "A letter (0 to 255) comes behind THE TEXT: how long it is.", PassBoundsTests::letters);
+        Bounds.sentence(2, "THE TEXT is letters (52 at most).", PassBoundsTests::lengths);
         Bounds.sentence(2, "OUTSIDE; FULL: there are 52.", PassBoundsTests::fullText);
         Bounds.sentence(3, "THE TEXT is empty: how long it was.", PassBoundsTests::wipe);
         Bounds.sentence(4, "A PASS is a TEXT: P, then PARTS, none or more", PassBoundsTests::heads);
@@ -37,6 +38,7 @@ public final class PassBoundsTests {
             + "FLAKE (SLEET: 2)", PassBoundsTests::canFallNow);
         Bounds.sentence(6, "if it will be over its YARD on THE DAY or on any one till it is due, that one, too",
             PassBoundsTests::canServeTillDue);
+        Bounds.sentence(6, "(if nothing is PUFFED)", PassBoundsTests::canServeUnpuffed);
         Bounds.sentence(6, "something is OWED, it HAS one FLAKE for it at least (GILT: it is no SLEET), SOFT: on such "
             + "a DAY with a still WIND.", PassBoundsTests::canServeAtAll);
         Bounds.sentence(7, "Of a PAPER its YARD (what = 0), the DAY when it is due (1), KIND (2), what is FILLED (3), "
@@ -133,6 +135,22 @@ public final class PassBoundsTests {
         Bounds.due("fault()", x.fault(), 0);
         Bounds.due("write('P')", x.write('P'), 1);
         Bounds.due("fault()", x.fault(), NONE);
+    }
+
+    private static void lengths() {
+        for (int letter : new int[] {0, 'P', 255}) {
+            PromisedSnow x = new PromisedSnow();
+            for (int n = 1; n <= 52; n++) {
+                Bounds.due("write of letter " + n, x.write(letter), n);
+                Bounds.due("letters", x.count(0), n);
+            }
+            for (int n = 53; n <= 60; n++) {
+                Bounds.due("write of letter " + n, x.write(letter), FULL);
+                Bounds.due("letters", x.count(0), 52);
+            }
+            Bounds.due("wipe()", x.wipe(), 52);
+            Bounds.due("letters", x.count(0), 0);
+        }
     }
 
     private static void fullText() {
@@ -465,6 +483,23 @@ public final class PassBoundsTests {
         Bounds.due("on the last day", x.cloud(0, 5), 2);
         x.day();
         Bounds.due("behind the last day", x.cloud(0, 5), 0);
+    }
+
+    private static void canServeUnpuffed() {
+        PromisedSnow x = Bounds.told("PC590C190S0990");
+        Bounds.due("a puff on is between", x.cloud(0, 5), 0);
+        Bounds.due("a puff back is between", x.cloud(1, 5), 0);
+        x.puff(0, true);
+        x.puff(1, false);
+        Bounds.due("puffed on", x.cloud(0, 5), 1);
+        Bounds.due("puffed back", x.cloud(1, 5), 1);
+        x.puff(0, true);
+        Bounds.due("puffed by", x.cloud(0, 5), 0);
+        // By the wind it is over 1 on day 1; puffed on, it is there now, and over 2 then.
+        x = Bounds.told("PW1C090S1190S2190S0190");
+        Bounds.due("by the wind alone", x.cloud(0, 5), 1 | 4);
+        x.puff(0, true);
+        Bounds.due("puffed on, then by the wind", x.cloud(0, 5), 1 | 2);
     }
 
     private static void canServeAtAll() {

@@ -6,7 +6,9 @@ public final class RefusedBoundsTests {
     private static final int FULL = Bounds.FULL;
 
     public static void main(String[] args) {
-        Bounds.sentence(2, "REFUSALS, of several the first that a call names: UNKNOWN", RefusedBoundsTests::inOrder);
+        Bounds.sentence(2, "REFUSALS, of several the first that a call names: UNKNOWN (there is no such CLOUD, PAPER, "
+            + "YARD (0 to 5), SLOT), OUTSIDE (another number is not as told), STATE (as told), FULL.",
+            RefusedBoundsTests::inOrder);
         Bounds.sentence(6, "(there is no such CLOUD, PAPER, YARD (0 to 5), SLOT)", RefusedBoundsTests::noSuch);
         Bounds.sentence(9, "What is refused changes nothing. NONE is -9.", RefusedBoundsTests::nothingIsChanged);
         Bounds.conclude();

@@ -25,12 +25,16 @@ public final class SeenBoundsTests {
         Bounds.sentence(23, "each has as many FLAKES as it HAS, and CAN serve with, alone, of what is OWED by PAPERS "
             + "that it CAN serve from where it is then, and 2 more, if the other one is over another YARD then; less "
             + "1, if it is PUFFED", SeenBoundsTests::whatARestIsWorth);
+        Bounds.sentence(23, "pairs in which neither has more by another choice alone: how many; the first (10 times "
+            + "the one and the other); NONE.", SeenBoundsTests::neitherHasMore);
         Bounds.sentence(23, "RESTS: how many (what = 0), the first (1); NONE. UNKNOWN: both; OUTSIDE: both are one, "
             + "what.", SeenBoundsTests::restsRefused);
         Bounds.sentence(24, "on each of n DAYS (1 to 6) from now on the WIND fails by x tenths (0 to 10), by itself "
             + "(no CLOUD goes)", SeenBoundsTests::fails);
+        Bounds.sentence(24, "that a CLOUD is over a YARD then: a FRACTION.", SeenBoundsTests::failsByYards);
         Bounds.sentence(24, "FAILS. UNKNOWN: both; OUTSIDE: n, x.", SeenBoundsTests::failsRefused);
         Bounds.sentence(25, "THE SEED is v: what it was.", SeenBoundsTests::seed);
+        Bounds.sentence(26, "SEASONS by THE SEED: m times (1 to 30)", SeenBoundsTests::seasonsMany);
         Bounds.sentence(26, "x (THE SEED, a long; 0 at first) becomes x times 6364136223846793005 and "
             + "1442695040888963407 (64 bits, wrapping)", SeenBoundsTests::seedGoesOn);
         Bounds.sentence(26, "its upper 31 bits by 28, what is left: 0 to 19: that by 5 (cut) is a CLOUD that falls on "
@@ -279,6 +283,35 @@ public final class SeenBoundsTests {
         rest("PC042C242S1940", 0, 1, 1, 10);
     }
 
+    private static void neitherHasMore() {
+        // As much by another choice is not more: a puff for one flake rests, and so does none.
+        rest("PC012C312S1990", 0, 1, 2, 12);
+        rest("PC012C312S5990", 0, 1, 2, 2);
+        rest("PC312C012S1990", 0, 1, 2, 21);
+        // Two of each rest: all four pairs do.
+        rest("PC012C312S1990S4990", 0, 1, 4, 11);
+        rest("PC012C312S5990S2990", 0, 1, 4, 0);
+        // One flake more, and one pair is left.
+        rest("PC022C322S1990S4990", 0, 1, 1, 11);
+        rest("PC022C322S5990S2990", 0, 1, 1, 0);
+        rest("PC022C322S5990S4990", 0, 1, 1, 1);
+        rest("PC022C322S1990S2990", 0, 1, 1, 10);
+    }
+
+    private static void failsByYards() {
+        PromisedSnow x = Bounds.told("PW1C010");
+        // None, one, two .. of the six winds blow, as likely as not: 1, 6, 15, 20, 15, 6, 1 of 64.
+        int[] above = {1, 3, 15, 5, 15, 3};
+        int[] below = {32, 32, 64, 16, 64, 32};
+        for (int yard = 0; yard < 6; yard++) {
+            fails(x, 0, yard, 6, 5, above[yard], below[yard]);
+        }
+        fails(Bounds.told("PW2C010"), 0, 5, 6, 5, 3, 32);
+        fails(Bounds.told("PW2C010"), 0, 1, 6, 5, 3, 32);
+        Bounds.due("yard 6", x.fails(0, 6, 6, 5, true), UNKNOWN);
+        Bounds.due("yard -1", x.fails(0, -1, 6, 5, true), UNKNOWN);
+    }
+
     private static void restsRefused() {
         for (int c : NO_CLOUDS) {
             for (int what : new int[] {-1, 0, 1, 2}) {
@@ -379,6 +412,20 @@ public final class SeenBoundsTests {
         busy.wipe();
         busy.unsee();
         Bounds.due("the seed stays", busy.seed(0), 5);
+    }
+
+    private static void seasonsMany() {
+        long v = 0;
+        for (int m = 1; m <= 30; m++) {
+            v = v * 6364136223846793005L + 1442695040888963407L;
+            PromisedSnow x = new PromisedSnow();
+            Bounds.due("seasons(" + m + ")", x.seasons(m), 0);
+            Bounds.due("the seed behind " + m, x.seed(0), v);
+        }
+        PromisedSnow x = new PromisedSnow();
+        Bounds.due("seasons(0)", x.seasons(0), OUTSIDE);
+        Bounds.due("seasons(31)", x.seasons(31), OUTSIDE);
+        Bounds.due("the seed stays", x.seed(0), 0);
     }
 
     private static void seedGoesOn() {
