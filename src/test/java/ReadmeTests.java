@@ -22,7 +22,7 @@ public final class ReadmeTests {
     private static final Pattern CALL = Pattern.compile("\\s*(snow\\..*\\));\\s*// (-?[0-9]+|[A-Z]+)\\b.*");
     private static final Pattern METHOD = Pattern.compile("`?([a-z]+)\\(([a-z, ]*)\\)`");
     private static final Pattern CONSTANT = Pattern.compile("`([A-Z]+)` \\((-[0-9]+)\\)");
-    private static final Pattern NAMED_FILE = Pattern.compile("`((?:\\.\\./shared|src)[^`]*)`");
+    private static final Pattern NAMED_FILE = Pattern.compile("`(src/[^`]*)`");
 
     private static int passed = 0;
     private static int failed = 0;
@@ -35,7 +35,7 @@ public final class ReadmeTests {
         methods(page);
         constants(page);
         files(page);
-        says("the tests are run by .ci/run", page.contains("\n    .ci/run\n") && Files.isExecutable(Path.of(".ci/run")));
+        says("the tests are run by .ci/run", page.contains("\n    .ci/run\n") && Files.exists(Path.of(".ci/run")));
         System.out.println(passed + " passed, " + failed + " failed");
         if (failed != 0) {
             System.exit(1);
